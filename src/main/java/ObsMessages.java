@@ -85,7 +85,7 @@ public final class ObsMessages {
     }
 
     public int compile() throws IllegalArgumentException {
-        if (!compiles()) {
+        if (!compileAnew()) {
             throw new IllegalArgumentException("the template has a fault");
         }
         return program.size;
@@ -117,7 +117,7 @@ public final class ObsMessages {
         if (!isSubset(subset)) {
             throw new IndexOutOfBoundsException("no such subset");
         }
-        if (!compiles()) {
+        if (!compileAnew()) {
             throw new IllegalArgumentException("the template has a fault");
         }
         walk.over(values[subset]);
@@ -129,7 +129,7 @@ public final class ObsMessages {
     }
 
     public int field(int subset, int i, int what) {
-        if (!isWalked(subset) || !walk.fields.has(i)) {
+        if (!walkOver(subset) || !walk.fields.has(i)) {
             return NONE;
         }
         switch (what) {
@@ -151,11 +151,11 @@ public final class ObsMessages {
     }
 
     public long reference(int subset, int i) {
-        return isWalked(subset) && walk.fields.has(i) ? walk.fields.references[i] : 0L;
+        return walkOver(subset) && walk.fields.has(i) ? walk.fields.references[i] : 0L;
     }
 
     public int find(int subset, int code, int place, int nth) {
-        if (!isWalked(subset)) {
+        if (!walkOver(subset)) {
             return NONE;
         }
         int seen = 0;
@@ -175,7 +175,7 @@ public final class ObsMessages {
         if (n < 1 || n > SUBSETS) {
             throw new IllegalArgumentException("n is not 1 .. 8");
         }
-        if (!compiles() || !hasRawNumbers(n) || packed && !isAlike(n)) {
+        if (!compileAnew() || !checkValues(n) || packed && !checkAlike(n)) {
             throw new IllegalArgumentException("a fault");
         }
         if (packed) {
@@ -199,7 +199,7 @@ public final class ObsMessages {
     }
 
     public int read() throws IllegalArgumentException {
-        if (compiles() && isOpened()) {
+        if (compileAnew() && openTape()) {
             if (reader.packed) {
                 reader.takePacked(walk);
             } else {
@@ -284,14 +284,14 @@ public final class ObsMessages {
         faultPlace = place;
     }
 
-    private boolean compiles() {
+    private boolean compileAnew() {
         program.build();
         setFault(program.fault, program.place);
         return program.fault == 0;
     }
 
     /** Walks over a subset as far as that goes, without a trace in fault(): these are mere questions. */
-    private boolean isWalked(int subset) {
+    private boolean walkOver(int subset) {
         if (!isSubset(subset)) {
             return false;
         }
@@ -303,7 +303,7 @@ public final class ObsMessages {
         return true;
     }
 
-    private boolean hasRawNumbers(int n) {
+    private boolean checkValues(int n) {
         for (int s = 0; s < n; s++) {
             walk.overChecked(values[s]);
             if (walk.fault != 0) {
@@ -318,7 +318,7 @@ public final class ObsMessages {
      * Whether all subsets have the fields of subset 0. A walk hangs on the values of COUNT and BIT alone, so the first
      * field that is otherwise is always one of these, with another value.
      */
-    private boolean isAlike(int n) {
+    private boolean checkAlike(int n) {
         walk.over(values[0]);
         for (int s = 1; s < n; s++) {
             int i = walk.fields.firstOther(values[0], values[s]);
@@ -330,8 +330,8 @@ public final class ObsMessages {
         return true;
     }
 
-    private boolean isOpened() {
-        if (reader.opens()) {
+    private boolean openTape() {
+        if (reader.open()) {
             return true;
         }
         setFault(11, NONE);
@@ -587,7 +587,7 @@ public final class ObsMessages {
             int at = openAts[top];
             openAts[top] = at + 1;
             int d = tables.listed[at];
-            if (!isTaken(at, d)) {
+            if (!takeUp(at, d)) {
                 return;
             }
             int operator = Descriptors.operatorOf(d);
@@ -603,7 +603,7 @@ public final class ObsMessages {
         }
 
         /** Takes a descriptor up, unless it is one too many. */
-        private boolean isTaken(int at, int d) {
+        private boolean takeUp(int at, int d) {
             if (at >= Tables.TEMPLATE_START) {
                 templatePlace = at - Tables.TEMPLATE_START;
             }
@@ -661,20 +661,13 @@ public final class ObsMessages {
                 return;
             }
             int repeat = size - 1;
-            if (counted) {
-                lookAtCount(at + 1);
+            // Operators add nothing to a COUNT, so that it has no FAULT 5.
+            if (counted && takeUp(at + 1, tables.listed[at + 1]) && tables.inForce(tables.listed[at + 1]) == NONE) {
+                fail(1);
             }
             if (fault == 0) {
                 openAts[top] = end;
                 openList(start, end, NONE, repeat);
-            }
-        }
-
-        /** Operators add nothing to a COUNT, so that it has no FAULT 5. */
-        private void lookAtCount(int at) {
-            int code = tables.listed[at];
-            if (isTaken(at, code) && tables.inForce(code) == NONE) {
-                fail(1);
             }
         }
 
@@ -818,11 +811,12 @@ public final class ObsMessages {
         private int nextPointed;
         private int at;
         private int come;
-        private boolean isQualityDue;
+        /** The kind of the field that comes next, NONE if a descriptor does. */
         private int dueKind;
         private int dueCode;
-        private int dueLoopEnd;
         private int dueBits;
+        /** Where that ends which the next COUNT counts, NONE unless its REPEAT has just come. */
+        private int countedEnd;
 
         Walk(Tables tables, Program program) {
             this.tables = tables;
@@ -832,7 +826,7 @@ public final class ObsMessages {
         /** Walks over a row of values. */
         void over(long[] row) {
             begin();
-            for (int i = 0; isAtNext() && i < FIELDS; i++) {
+            for (int i = 0; advance() && i < FIELDS; i++) {
                 settle(row[i]);
             }
         }
@@ -840,7 +834,7 @@ public final class ObsMessages {
         /** The same, but each value must have a raw number, too. */
         void overChecked(long[] row) {
             begin();
-            for (int i = 0; isAtNext() && i < FIELDS; i++) {
+            for (int i = 0; advance() && i < FIELDS; i++) {
                 settle(row[i]);
                 if (fault == 0 && !fields.hasRaw(i, row[i])) {
                     fail(9, i);
@@ -859,11 +853,10 @@ public final class ObsMessages {
             nextPointed = 0;
             at = 0;
             come = 0;
-            isQualityDue = false;
             dueKind = NONE;
             dueCode = NONE;
-            dueLoopEnd = NONE;
             dueBits = 0;
+            countedEnd = NONE;
         }
 
         void fail(int number, int field) {
@@ -872,21 +865,29 @@ public final class ObsMessages {
         }
 
         /** Comes to the next field; false at the walk's end and at a fault (a field too many is one). */
-        boolean isAtNext() {
+        boolean advance() {
             int before = fields.count;
             for (int step = 0; step <= MOST_DESCRIPTORS && fault == 0 && fields.count == before; step++) {
-                if (isQualityDue) {
-                    giveQuality();
-                } else if (dueCode != NONE) {
-                    giveFromEntry();
-                } else if (dueBits > 0) {
-                    giveBit();
-                } else {
-                    at = loops.onFrom(at);
-                    if (at >= program.size) {
-                        return false;
-                    }
-                    comeToNext();
+                switch (dueKind) {
+                    case Fields.QUALITY:
+                        giveQuality();
+                        break;
+                    case Fields.ELEMENT:
+                    case Fields.COUNT:
+                        giveFromEntry();
+                        break;
+                    case Fields.BIT:
+                        giveBit();
+                        break;
+                    case Fields.MARK:
+                        giveMark();
+                        break;
+                    default:
+                        at = loops.onFrom(at);
+                        if (at >= program.size) {
+                            return false;
+                        }
+                        comeToNext();
                 }
             }
             return fault == 0 && fields.count > before;
@@ -904,32 +905,25 @@ public final class ObsMessages {
             if (value < least || value > most) {
                 fail(6, i);
             } else if (isCount) {
-                loops.enter(at, dueLoopEnd, (int) value);
+                loops.enter(at, countedEnd, (int) value);
+                countedEnd = NONE;
             } else if (value == 1 && pointedCount < pointed.length) {
                 pointed[pointedCount] = fields.targets[i];
                 pointedCount++;
             }
         }
 
-        private boolean isOneTooMany() {
+        private void comeToNext() {
             come++;
             if (come > MOST_DESCRIPTORS) {
                 fail(8, fields.count);
-            }
-            return fault != 0;
-        }
-
-        private void comeToNext() {
-            if (isOneTooMany()) {
                 return;
             }
             int d = program.descriptors[at];
             at++;
             int operator = Descriptors.operatorOf(d);
             if (Descriptors.isElement(d)) {
-                isQualityDue = settings[Descriptors.QUALITY] > 0;
-                dueKind = Fields.ELEMENT;
-                dueCode = d;
+                comeToElement(d);
             } else if (Descriptors.isRepeat(d)) {
                 comeToRepeat(Descriptors.timesOf(d), program.bodyEnds[at - 1]);
             } else if (operator != NONE) {
@@ -937,42 +931,25 @@ public final class ObsMessages {
             } else if (Descriptors.bitsOf(d) != NONE) {
                 comeToBits(Descriptors.bitsOf(d));
             } else if (Descriptors.isMark(d)) {
-                giveMark();
+                dueKind = Fields.MARK;
+            }
+        }
+
+        private void comeToElement(int code) {
+            dueCode = code;
+            if (countedEnd != NONE) {
+                dueKind = Fields.COUNT;
+            } else {
+                dueKind = settings[Descriptors.QUALITY] > 0 ? Fields.QUALITY : Fields.ELEMENT;
             }
         }
 
         private void comeToRepeat(int times, int end) {
             if (times > 0) {
                 loops.enter(at, end, times);
-            } else if (!isOneTooMany()) {
-                dueKind = Fields.COUNT;
-                dueCode = program.descriptors[at];
-                dueLoopEnd = end;
-                at++;
+            } else {
+                countedEnd = end;
             }
-        }
-
-        private void giveQuality() {
-            isQualityDue = false;
-            give(Fields.QUALITY, NONE, settings[Descriptors.QUALITY], 0, 0L, fields.count + 1);
-        }
-
-        private void giveFromEntry() {
-            int code = dueCode;
-            dueCode = NONE;
-            int entry = tables.inForce(code);
-            if (entry == NONE) {
-                return;
-            }
-            int width = tables.widths[entry];
-            int scale = tables.scales[entry];
-            long reference = tables.references[entry];
-            if (dueKind == Fields.ELEMENT) {
-                width += Descriptors.addedWidth(settings[Descriptors.WIDTH]);
-                scale += Descriptors.addedScale(settings[Descriptors.SCALE]);
-                reference *= 1L << settings[Descriptors.SHIFT];
-            }
-            give(dueKind, code, width, scale, reference, NONE);
         }
 
         private void comeToBits(int n) {
@@ -982,16 +959,42 @@ public final class ObsMessages {
             }
             pointedCount = 0;
             nextPointed = 0;
+            dueKind = Fields.BIT;
             dueBits = n;
+        }
+
+        private void giveQuality() {
+            dueKind = Fields.ELEMENT;
+            give(Fields.QUALITY, NONE, settings[Descriptors.QUALITY], 0, 0L, fields.count + 1);
+        }
+
+        private void giveFromEntry() {
+            int kind = dueKind;
+            dueKind = NONE;
+            int entry = tables.inForce(dueCode);
+            if (entry == NONE) {
+                return;
+            }
+            int width = tables.widths[entry];
+            int scale = tables.scales[entry];
+            long reference = tables.references[entry];
+            if (kind == Fields.ELEMENT) {
+                width += Descriptors.addedWidth(settings[Descriptors.WIDTH]);
+                scale += Descriptors.addedScale(settings[Descriptors.SCALE]);
+                reference *= 1L << settings[Descriptors.SHIFT];
+            }
+            give(kind, dueCode, width, scale, reference, NONE);
         }
 
         private void giveBit() {
             int target = elements[elementCount - dueBits];
             dueBits--;
+            dueKind = dueBits > 0 ? Fields.BIT : NONE;
             give(Fields.BIT, NONE, 1, 0, 0L, target);
         }
 
         private void giveMark() {
+            dueKind = NONE;
             if (nextPointed >= pointedCount) {
                 fail(7, fields.count);
                 return;
@@ -1162,7 +1165,7 @@ public final class ObsMessages {
         }
 
         /** Whether the tape has the form of a message. */
-        boolean opens() {
+        boolean open() {
             fault = 0;
             place = NONE;
             if (tape.byteCount() < Form.HEAD_BYTES) {
@@ -1183,8 +1186,8 @@ public final class ObsMessages {
         void takePlain(Walk walk) {
             for (int s = 0; s < subsets && fault == 0; s++) {
                 walk.begin();
-                for (int i = 0; walk.isAtNext() && i < FIELDS; i++) {
-                    if (isPlainTaken(walk.fields, i, rows[s])) {
+                for (int i = 0; walk.advance() && i < FIELDS; i++) {
+                    if (takePlainValue(walk.fields, i, rows[s])) {
                         walk.settle(rows[s][i]);
                     } else {
                         walk.fail(12, i);
@@ -1196,8 +1199,8 @@ public final class ObsMessages {
 
         void takePacked(Walk walk) {
             walk.begin();
-            for (int i = 0; walk.isAtNext() && i < FIELDS; i++) {
-                if (isPackedTaken(walk.fields, i)) {
+            for (int i = 0; walk.advance() && i < FIELDS; i++) {
+                if (takePackedValues(walk.fields, i)) {
                     walk.settle(rows[0][i]);
                 } else {
                     walk.fail(12, i);
@@ -1222,7 +1225,7 @@ public final class ObsMessages {
             return number;
         }
 
-        private boolean isPlainTaken(Fields fields, int i, long[] row) {
+        private boolean takePlainValue(Fields fields, int i, long[] row) {
             int width = fields.widths[i];
             if (end - at < width) {
                 return false;
@@ -1231,7 +1234,7 @@ public final class ObsMessages {
             return true;
         }
 
-        private boolean isPackedTaken(Fields fields, int i) {
+        private boolean takePackedValues(Fields fields, int i) {
             int width = fields.widths[i];
             if (end - at < width + Form.SPREAD_BITS) {
                 return false;
@@ -1242,19 +1245,19 @@ public final class ObsMessages {
                 return false;
             }
             if (spread == 0) {
-                return isOneForAllTaken(fields, i, least);
+                return takeOneForAll(fields, i, least);
             }
-            return !fields.isCountOrBit(i) && areDifferencesTaken(fields, i, least, spread);
+            return !fields.isCountOrBit(i) && takeDifferences(fields, i, least, spread);
         }
 
-        private boolean isOneForAllTaken(Fields fields, int i, long raw) {
+        private boolean takeOneForAll(Fields fields, int i, long raw) {
             for (int s = 0; s < subsets; s++) {
                 rows[s][i] = fields.valueOf(i, raw);
             }
             return fields.kinds[i] != Fields.COUNT || !fields.isMissing(i, raw);
         }
 
-        private boolean areDifferencesTaken(Fields fields, int i, long least, int spread) {
+        private boolean takeDifferences(Fields fields, int i, long least, int spread) {
             for (int s = 0; s < subsets; s++) {
                 long difference = take(spread);
                 boolean isMissing = difference == allOnes(spread);
@@ -1274,6 +1277,7 @@ public final class ObsMessages {
         static final long FARTHEST = 2000000000L;
         private static final int SIDE = 8;
         private static final int GROUP_BITS = 11;
+        private static final int ABOVE_ALL_COSTS = 1000000;
 
         final long[] points = new long[POINTS];
         final long[] packed = new long[POINTS];
@@ -1341,7 +1345,7 @@ public final class ObsMessages {
             }
             groupBits = cheapest[0];
             groupCount = 0;
-            for (int start = 0; start < codeCount; start = firstEnds[start]) {
+            for (int start = 0; start < codeCount && groupCount < POINTS; start = firstEnds[start]) {
                 groupEnds[groupCount] = firstEnds[start];
                 groupCount++;
             }
@@ -1351,7 +1355,7 @@ public final class ObsMessages {
         private void cutFrom(int start, int price) {
             long least = codes[start];
             long greatest = codes[start];
-            cheapest[start] = Integer.MAX_VALUE;
+            cheapest[start] = ABOVE_ALL_COSTS;
             for (int end = start + 1; end <= codeCount; end++) {
                 least = Math.min(least, codes[end - 1]);
                 greatest = Math.max(greatest, codes[end - 1]);
