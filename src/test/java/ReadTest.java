@@ -27,13 +27,11 @@ public final class ReadTest {
             Checks.due("n " + n, () -> x.feed(1, n), -1);
         }
         Checks.due("nothing came", x.feed(0, 1), 11);
-        for (int length = 12; length <= 252; length += 4) {
-            x.feed(0, 4);
+        for (int length = 15; length <= 999; length += 4) {
+            Checks.due("four more", x.feed(0, 4), length);
         }
-        for (int i = 0; i < 187; i++) {
-            x.feed(0, 4);
-        }
-        Checks.due("999 bytes", x.feed(0, 1), 1000);
+        Checks.due("999 and 2", x.feed(0, 2), -1);
+        Checks.due("999 and 1", x.feed(0, 1), 1000);
         Checks.due("more than 1000", x.feed(0, 1), -1);
         Checks.due("a message of 1000 bytes is none", () -> x.read(), ILLEGAL);
         Checks.due("empty then", x.feed(0, 2), 2);

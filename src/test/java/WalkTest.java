@@ -230,6 +230,8 @@ public final class WalkTest {
         Make.fill(x, 1, 231 + 16, 416, 400);
         faulty("far more than 2000 descriptors", x, 1, 8, 101);
         Checks.due("what came before is there", x.field(1, 0, 1), 3);
+        Make.refill(x, 231, 100);
+        faulty("far more than 2000 descriptors, and no field", x, 1, 8, 100);
         x = Make.template(231, 100, 231, 103, 3);
         Make.fill(x, 0, 231, 101);
         Make.fill(x, 1, 200 + 32 + 3, 416, 400);

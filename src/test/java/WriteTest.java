@@ -215,13 +215,17 @@ public final class WriteTest {
     private static void largest() {
         ObsMessages x = Make.template(226, 100);
         Make.fill(x, 0, 226, 2);
-        for (int s = 0; s < 8; s++) {
-            for (int i = s == 0 ? 0 : 1; i < 32; i++) {
-                x.put(s, i, s == 0 ? 0 : (1L << 32) - 2);
+        Checks.due("PLAIN, all MISSING", () -> x.write(8, false), 4 + 8 * 100 * 4);
+        Checks.due("PACKED, all MISSING", () -> x.write(8, true), 4 + 100 * 38 / 8);
+        for (int i = 0; i < 100; i++) {
+            x.put(0, i, 0);
+            for (int s = 1; s < 8; s++) {
+                x.put(s, i, (1L << 32) - 2);
             }
         }
         Checks.due("PLAIN", () -> x.write(8, false), 4 + 8 * 100 * 4);
-        Checks.due("PACKED", () -> x.write(8, true), 4 + (100 * 38 + 7 + 31 * 256 + 8) / 8);
-        Checks.due("bits", 256 * x.byteAt(2) + x.byteAt(3), 100 * 38 + 31 * 256 + 8);
+        Checks.due("PACKED", () -> x.write(8, true), 4 + 100 * (38 + 8 * 32) / 8);
+        Checks.due("bits", 256 * x.byteAt(2) + x.byteAt(3), 100 * (38 + 8 * 32));
+        Checks.due("the last byte", x.byteAt(4 + 100 * (38 + 8 * 32) / 8 - 1), 254);
     }
 }
