@@ -17,7 +17,7 @@ public final class CompileTest {
     }
 
     private static void newObject() {
-        ObsMessages x = new ObsMessages();
+        Counted x = new Counted();
         Checks.due("no fault", x.fault(0), 0);
         Checks.due("no place", x.fault(1), -1);
         Checks.due("no template", x.compile(), 0);
@@ -27,8 +27,9 @@ public final class CompileTest {
         Checks.due("nothing packed at all", x.packedAt(0), ObsMessages.MISSING);
         Checks.due("empty tape", x.feed(0, 1), 1);
         for (int s = 0; s < 8; s++) {
+            Counted y = new Counted();
             for (int i = 0; i < 100; i++) {
-                Checks.due("no values", x.get(s, i), ObsMessages.MISSING);
+                Checks.due("no values", y.get(s, i), ObsMessages.MISSING);
             }
         }
         for (int version = -1; version < 4; version++) {
@@ -41,12 +42,12 @@ public final class CompileTest {
         }
     }
 
-    private static void compiles(String what, ObsMessages x, int looked) {
+    private static void compiles(String what, Counted x, int looked) {
         Checks.due(what, () -> x.compile(), looked);
         Checks.due(what + ", fault", Make.fault(x), "0 at -1");
     }
 
-    private static void faulty(String what, ObsMessages x, int number, int place) {
+    private static void faulty(String what, Counted x, int number, int place) {
         Checks.due(what, () -> x.compile(), ILLEGAL);
         Checks.due(what + ", fault", Make.fault(x), number + " at " + place);
     }
@@ -55,7 +56,7 @@ public final class CompileTest {
         compiles("elements", Make.template(0, 1, 2), 3);
         compiles("what is repeated counts once", Make.template(200 + 16 * 2 + 15, 0, 1), 3);
         compiles("a COUNT counts", Make.template(216, 3, 0), 3);
-        ObsMessages x = Make.template(100, 217, 100, 101);
+        Counted x = Make.template(100, 217, 100, 101);
         Make.fill(x, 0, 0, 0);
         Make.fill(x, 1, 100);
         compiles("a sequence counts each time", x, 4 + 2 + 2 + 1 + 2);
@@ -67,7 +68,7 @@ public final class CompileTest {
     private static void fault1() {
         faulty("no entry", Make.template(0, 1, 6), 1, 2);
         faulty("no sequence", Make.template(0, 115), 1, 1);
-        ObsMessages x = Make.template(0, 103, 0);
+        Counted x = Make.template(0, 103, 0);
         Make.fill(x, 3, 0, 0, 7);
         faulty("in a sequence: the place in the template", x, 1, 1);
         x.element(2, 7, 0, 0, 4);
@@ -79,8 +80,8 @@ public final class CompileTest {
         faulty("the first of several", Make.template(0, 400, 9), 4, 1);
     }
 
-    private static ObsMessages chain(int sequences) {
-        ObsMessages x = Make.template(0, 100);
+    private static Counted chain(int sequences) {
+        Counted x = Make.template(0, 100);
         for (int s = 0; s < sequences - 1; s++) {
             x.append(s, 101 + s);
         }
@@ -88,7 +89,7 @@ public final class CompileTest {
     }
 
     private static void fault2() {
-        ObsMessages x = Make.template(0, 0, 105);
+        Counted x = Make.template(0, 0, 105);
         Make.fill(x, 5, 0, 105);
         faulty("within itself", x, 2, 2);
         x.clear(5);
@@ -109,8 +110,8 @@ public final class CompileTest {
     }
 
     /** 995 descriptors in 11 of the template. */
-    private static ObsMessages nearlyFull() {
-        ObsMessages x = Make.template(102, 101, 101, 101, 101, 101, 100, 100, 100, 100, 100);
+    private static Counted nearlyFull() {
+        Counted x = Make.template(102, 101, 101, 101, 101, 101, 100, 100, 100, 100, 100);
         for (int i = 0; i < 8; i++) {
             x.append(0, 0);
             x.append(1, 100);
@@ -120,7 +121,7 @@ public final class CompileTest {
     }
 
     private static void fault2Many() {
-        ObsMessages x = nearlyFull();
+        Counted x = nearlyFull();
         compiles("995 descriptors", x, 995);
         Make.fill(x, -1, 0, 0, 0, 0);
         compiles("999 descriptors", x, 999);
@@ -161,7 +162,7 @@ public final class CompileTest {
         faulty("a REPEAT is no COUNT", Make.template(216, 217, 0), 3, 0);
         faulty("a COUNT without an entry", Make.template(216, 9, 0), 1, 1);
         faulty("too short, ahead of a COUNT without an entry", Make.template(216, 9), 3, 0);
-        ObsMessages x = Make.template(100, 0, 0, 0);
+        Counted x = Make.template(100, 0, 0, 0);
         Make.fill(x, 0, 0, 233, 0);
         faulty("the end is the sequence's", x, 3, 0);
         x = Make.template(200 + 16 * 2 + 2, 200 + 16 * 2 + 2, 0, 0);
@@ -194,7 +195,7 @@ public final class CompileTest {
     }
 
     private static void fault4OfLists() {
-        ObsMessages x = Make.template(0, 100, 400);
+        Counted x = Make.template(0, 100, 400);
         Make.fill(x, 0, 417, 0);
         faulty("left by a sequence", x, 4, 1);
         x = Make.template(417, 100, 0);
@@ -234,7 +235,7 @@ public final class CompileTest {
     }
 
     private static void nothingElseChanges() {
-        ObsMessages x = Make.template(0, 5);
+        Counted x = Make.template(0, 5);
         Make.values(x, 0, 3, 4);
         x.write(1, false);
         String before = Make.message(x);
@@ -248,7 +249,7 @@ public final class CompileTest {
     }
 
     private static void faultOfTheLatest() {
-        ObsMessages x = Make.template(0, 63);
+        Counted x = Make.template(0, 63);
         Checks.due("field", x.field(0, 0, 0), -1);
         Checks.due("reference", x.reference(0, 0), 0);
         Checks.due("find", x.find(0, 0, -1, 0), -1);

@@ -20,7 +20,7 @@ public final class GridTest {
     }
 
     private static void points() {
-        ObsMessages x = new ObsMessages();
+        Counted x = new Counted();
         for (int i : new int[] {-1, 64, Integer.MIN_VALUE, Integer.MAX_VALUE}) {
             Checks.fails("point " + i, () -> x.point(i, 0), BOUNDS);
             Checks.fails("point " + i + ", no number either", () -> x.point(i, Long.MAX_VALUE), BOUNDS);
@@ -44,7 +44,7 @@ public final class GridTest {
     }
 
     private static void steps() {
-        ObsMessages x = new ObsMessages();
+        Counted x = new Counted();
         x.point(3, -7);
         Checks.due("one point", x.pack(1), 0);
         Checks.due("one point", x.packedAt(3), -7);
@@ -68,7 +68,7 @@ public final class GridTest {
     }
 
     private static void packedPoints() {
-        ObsMessages x = new ObsMessages();
+        Counted x = new Counted();
         x.point(0, 100);
         x.point(1, 107);
         x.point(8, 104);
@@ -97,7 +97,7 @@ public final class GridTest {
 
     /** The points 7 and 8 .. 15 lie apart in number, but row 1 is taken from the right: 15 comes behind 7. */
     private static void order() {
-        ObsMessages x = new ObsMessages();
+        Counted x = new Counted();
         for (int i = 0; i < 64; i++) {
             boolean isHigh = i >= 12 && i < 20;
             x.point(i, isHigh ? 2000000 : 0);
@@ -110,7 +110,7 @@ public final class GridTest {
     }
 
     private static void groups() {
-        ObsMessages x = new ObsMessages();
+        Counted x = new Counted();
         for (int what : new int[] {-3, -2, -1, 0, 1, 64, Integer.MIN_VALUE, Integer.MAX_VALUE}) {
             Checks.due("nothing packed, " + what, () -> x.group(what), -1);
         }
@@ -145,7 +145,7 @@ public final class GridTest {
         for (int turn = 0; turn < 300; turn++) {
             int n = 1 + random.nextInt(11);
             int bits = 1 + random.nextInt(6);
-            ObsMessages x = new ObsMessages();
+            Counted x = new Counted();
             List<Long> codes = new ArrayList<>();
             for (int i = 0; i < n; i++) {
                 codes.add((long) (random.nextInt(4) == 0 ? random.nextInt(1 << bits) : random.nextInt(2)));

@@ -6,21 +6,8 @@ public final class RoomTest {
             (com.sun.management.ThreadMXBean) ManagementFactory.getThreadMXBean();
 
     public static void main(String[] args) {
-        ObsMessages x = Make.template(462, 216, 3, 0, 226, 100, 460, 504, 520);
-        Make.fill(x, 0, 4, 5);
-        for (int s = 0; s < 8; s++) {
-            for (int i = 0; i < 100; i++) {
-                x.put(s, i, i == 0 ? 3 : i == 1 || i == 3 || i == 5 ? s % 3 : ObsMessages.MISSING);
-            }
-            for (int i = 47; i < 51; i++) {
-                x.put(s, i, 1);
-            }
-        }
-        for (int i = 0; i < 64; i++) {
-            x.point(i, i * i * 7919 % 1000);
-        }
-        all(x);
-        all(x);
+        all(filled());
+        Counted x = filled();
         long before = allocated();
         all(x);
         long made = allocated() - before;
@@ -32,15 +19,30 @@ public final class RoomTest {
         Checks.end("RoomTest");
     }
 
+    private static Counted filled() {
+        Counted x = Make.template(462, 216, 3, 0, 226, 100, 460, 504, 520);
+        Make.fill(x, 0, 4, 5);
+        for (int s = 0; s < 8; s++) {
+            Make.values(x, s, 3, s % 3, ObsMessages.MISSING, s % 3, ObsMessages.MISSING, s % 3);
+            for (int i = 47; i < 51; i++) {
+                x.put(s, i, 1);
+            }
+        }
+        for (int i = 0; i < 64; i++) {
+            x.point(i, i * i * 7919 % 1000);
+        }
+        return x;
+    }
+
     private static long allocated() {
         return BEAN.getThreadAllocatedBytes(Thread.currentThread().getId());
     }
 
-    private static void all(ObsMessages x) {
+    private static void all(Counted x) {
         long sum = x.compile() + x.fields(3) + x.field(2, 9, 2) + x.reference(1, 5) + x.find(0, 4, 3, 0);
         sum += x.write(8, false);
         sum += x.write(8, true);
-        for (int i = 0; i < 200 && x.byteAt(i) != -1; i++) {
+        for (int i = 0; x.byteAt(i) != -1; i++) {
             sum += x.feed(x.byteAt(i), 1);
         }
         sum += x.read();

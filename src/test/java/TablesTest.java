@@ -14,7 +14,7 @@ public final class TablesTest {
     }
 
     private static void entryBounds() {
-        ObsMessages x = new ObsMessages();
+        Counted x = new Counted();
         for (int version = -1; version <= 3; version++) {
             int v = version;
             Checks.runs("least entry", () -> x.element(v, 0, -8, -1000000000, 1));
@@ -35,7 +35,7 @@ public final class TablesTest {
     }
 
     private static void entryInForce() {
-        ObsMessages x = new ObsMessages();
+        Counted x = new Counted();
         x.append(-1, 7);
         Checks.due("no entry", x.field(0, 0, 2), -1);
         x.element(1, 7, 0, 0, 11);
@@ -60,7 +60,7 @@ public final class TablesTest {
     }
 
     private static void drops() {
-        ObsMessages x = new ObsMessages();
+        Counted x = new Counted();
         Checks.due("nothing to drop", x.drop(0, 5), false);
         x.element(0, 5, 0, 0, 1);
         x.element(-1, 5, 0, 0, 1);
@@ -78,7 +78,7 @@ public final class TablesTest {
     }
 
     private static void versions() {
-        ObsMessages x = new ObsMessages();
+        Counted x = new Counted();
         for (int n = 0; n <= 3; n++) {
             int v = n;
             Checks.runs("version " + n, () -> x.version(v));
@@ -93,7 +93,7 @@ public final class TablesTest {
 
     private static void lists() {
         for (int list = -1; list < 16; list++) {
-            ObsMessages x = new ObsMessages();
+            Counted x = new Counted();
             int l = list;
             int room = list == -1 ? 24 : 8;
             for (int n = 1; n <= room; n++) {
@@ -104,7 +104,7 @@ public final class TablesTest {
             Checks.runs("clear", () -> x.clear(l));
             Checks.due("empty again", x.append(list, 1), 1);
         }
-        ObsMessages x = new ObsMessages();
+        Counted x = new Counted();
         for (int list : new int[] {-2, 16, Integer.MIN_VALUE, Integer.MAX_VALUE}) {
             Checks.due("append to " + list, () -> x.append(list, 1), ILLEGAL);
             Checks.fails("clear " + list, () -> x.clear(list), ILLEGAL);
@@ -132,10 +132,10 @@ public final class TablesTest {
                     || d >= 440 && d <= 455 || d >= 460 && d <= 468 || d >= 480 && d <= 487 || d >= 501 && d <= 516
                     || d == 520;
             Object want = known ? 1 : ILLEGAL;
-            Checks.due("template, " + d, () -> new ObsMessages().append(-1, descriptor), want);
-            Checks.due("sequence, " + d, () -> new ObsMessages().append(3, descriptor), want);
+            Checks.due("template, " + d, () -> new Counted().append(-1, descriptor), want);
+            Checks.due("sequence, " + d, () -> new Counted().append(3, descriptor), want);
         }
-        Checks.due("far off", () -> new ObsMessages().append(0, Integer.MIN_VALUE), ILLEGAL);
-        Checks.due("far off", () -> new ObsMessages().append(0, Integer.MAX_VALUE), ILLEGAL);
+        Checks.due("far off", () -> new Counted().append(0, Integer.MIN_VALUE), ILLEGAL);
+        Checks.due("far off", () -> new Counted().append(0, Integer.MAX_VALUE), ILLEGAL);
     }
 }

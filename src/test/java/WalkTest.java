@@ -21,7 +21,7 @@ public final class WalkTest {
     }
 
     private static void values() {
-        ObsMessages x = new ObsMessages();
+        Counted x = new Counted();
         long[] some = {0, -1, Long.MIN_VALUE, Long.MAX_VALUE, MISSING};
         for (long v : some) {
             Checks.runs("put", () -> x.put(7, 99, v));
@@ -39,7 +39,7 @@ public final class WalkTest {
     }
 
     /** kind, code, width, scale, target, repetition, reference of a field, as text. */
-    private static String shape(ObsMessages x, int subset, int i) {
+    private static String shape(Counted x, int subset, int i) {
         StringBuilder s = new StringBuilder();
         for (int what = 0; what <= 5; what++) {
             s.append(x.field(subset, i, what)).append(' ');
@@ -47,20 +47,20 @@ public final class WalkTest {
         return s.append(x.reference(subset, i)).toString();
     }
 
-    private static void shapes(String what, ObsMessages x, int subset, String... due) {
+    private static void shapes(String what, Counted x, int subset, String... due) {
         for (int i = 0; i < due.length; i++) {
             Checks.due(what + ", field " + i, shape(x, subset, i), due[i]);
         }
         Checks.due(what + ", behind the last", shape(x, subset, due.length), "-1 -1 -1 -1 -1 -1 0");
     }
 
-    private static void faulty(String what, ObsMessages x, int subset, int number, int place) {
+    private static void faulty(String what, Counted x, int subset, int number, int place) {
         Checks.due(what, () -> x.fields(subset), ILLEGAL);
         Checks.due(what + ", fault", Make.fault(x), number + " at " + place);
     }
 
     private static void operators() {
-        ObsMessages x = Make.template(4, 420, 4, 450, 4, 487, 4, 5, 400, 4, 440, 480, 4);
+        Counted x = Make.template(4, 420, 4, 450, 4, 487, 4, 5, 400, 4, 440, 480, 4);
         Checks.due("operators", x.fields(0), 7);
         shapes("operators", x, 0, "0 4 12 2 -1 -1 10", "0 4 16 2 -1 -1 10", "0 4 16 4 -1 -1 10",
                 "0 4 16 4 -1 -1 1280", "0 5 24 2 -1 -1 -384", "0 4 12 4 -1 -1 1280", "0 4 12 2 -1 -1 10");
@@ -72,7 +72,7 @@ public final class WalkTest {
     }
 
     private static void quality() {
-        ObsMessages x = Make.template(3, 468, 4, 216, 3, 0, 460, 461, 100, 460, 5);
+        Counted x = Make.template(3, 468, 4, 216, 3, 0, 460, 461, 100, 460, 5);
         Make.fill(x, 0, 3);
         x.put(2, 3, 2);
         Checks.due("QUALITY", x.fields(2), 11);
@@ -82,7 +82,7 @@ public final class WalkTest {
     }
 
     private static void repeats() {
-        ObsMessages x = Make.template(200 + 16 * 4 + 2, 0, 200 + 16 * 1 + 3, 3, 100, 5);
+        Counted x = Make.template(200 + 16 * 4 + 2, 0, 200 + 16 * 1 + 3, 3, 100, 5);
         Make.fill(x, 0, 218, 4, 1);
         Checks.due("REPEAT", x.fields(0), 2 * (1 + 3 + 2 + 1) + 1);
         int[] codes = {0, 3, 3, 3, 4, 4, 1, 0, 3, 3, 3, 4, 4, 1, 5};
@@ -98,7 +98,7 @@ public final class WalkTest {
     }
 
     private static void counts() {
-        ObsMessages x = Make.template(3, 420, 450, 482, 468, 216, 4, 3, 460, 480, 440, 400, 5);
+        Counted x = Make.template(3, 420, 450, 482, 468, 216, 4, 3, 460, 480, 440, 400, 5);
         x.put(1, 1, 3);
         Checks.due("COUNT without operators", x.fields(1), 1 + 1 + 3 * 2 + 1);
         Checks.due("the COUNT", shape(x, 1, 1), "2 4 12 2 -1 -1 10");
@@ -126,7 +126,7 @@ public final class WalkTest {
     }
 
     private static void bits() {
-        ObsMessages x = Make.template(0, 468, 4, 460, 216, 3, 5, 503, 520, 520);
+        Counted x = Make.template(0, 468, 4, 460, 216, 3, 5, 503, 520, 520);
         Make.values(x, 0, 1, 2, 3, 2, 4, 5, 0, 1, 1);
         Checks.due("BITS", x.fields(0), 11);
         shapes("BITS", x, 0, "0 0 8 0 -1 -1 0", "1 -1 8 0 2 -1 0", "0 4 12 2 -1 -1 10", "2 3 5 0 -1 -1 0",
@@ -151,7 +151,7 @@ public final class WalkTest {
     }
 
     private static void bitFaults() {
-        ObsMessages x = Make.template(0, 0, 502);
+        Counted x = Make.template(0, 0, 502);
         for (long v : new long[] {2, -1, MISSING, Long.MAX_VALUE, 1L << 32}) {
             Make.values(x, 5, 0, 0, 1, v);
             faulty("BIT " + v, x, 5, 6, 503);
@@ -171,7 +171,7 @@ public final class WalkTest {
     }
 
     private static void marks() {
-        ObsMessages x = Make.template(520);
+        Counted x = Make.template(520);
         faulty("nothing is pointed at", x, 0, 7, 0);
         Make.refill(x, 0, 420, 4, 400, 502, 520, 520);
         Make.values(x, 0, 0, 0, 0, 1);
@@ -200,7 +200,7 @@ public final class WalkTest {
     }
 
     private static void fault8Fields() {
-        ObsMessages x = Make.template(200 + 16 + 10, 100);
+        Counted x = Make.template(200 + 16 + 10, 100);
         Make.fill(x, 0, 200 + 16 + 10, 3);
         Checks.due("100 fields", x.fields(0), 100);
         Checks.due("the 100th", x.field(0, 99, 0) + " " + x.field(0, 100, 0), "0 -1");
@@ -225,7 +225,7 @@ public final class WalkTest {
     }
 
     private static void fault8Descriptors() {
-        ObsMessages x = Make.template(3, 231, 100, 3);
+        Counted x = Make.template(3, 231, 100, 3);
         Make.fill(x, 0, 231, 101);
         Make.fill(x, 1, 231 + 16, 416, 400);
         faulty("far more than 2000 descriptors", x, 1, 8, 101);
@@ -248,7 +248,7 @@ public final class WalkTest {
         fault8Counts(x);
     }
 
-    private static void fault8Counts(ObsMessages x) {
+    private static void fault8Counts(Counted x) {
         Make.refill(x, 231, 100, 231, 103, 3);
         for (int i = 0; i < 7; i++) {
             Make.fill(x, -1, 416, 400);
@@ -268,7 +268,7 @@ public final class WalkTest {
     }
 
     private static void noSuch() {
-        ObsMessages x = Make.template(4, 5);
+        Counted x = Make.template(4, 5);
         for (int subset : new int[] {-1, 8, Integer.MIN_VALUE, Integer.MAX_VALUE}) {
             Checks.due("fields of " + subset, () -> x.fields(subset), BOUNDS);
             Checks.due("field of " + subset, () -> x.field(subset, 0, 0), -1);
@@ -290,7 +290,7 @@ public final class WalkTest {
     }
 
     private static void finds() {
-        ObsMessages x = Make.template(3, 200 + 16 * 4 + 2, 3, 219, 3, 4, 501, 520, 216, 3, 5);
+        Counted x = Make.template(3, 200 + 16 * 4 + 2, 3, 219, 3, 4, 501, 520, 216, 3, 5);
         Make.values(x, 0, 0, 0, 0, 0, 0, 0, 0, 0, 0, 0, 0, 1);
         x.put(0, 13, 1);
         // 3 | 3 3 3 3 4 | 3 3 3 3 4 | BIT MARK COUNT 5

@@ -17,7 +17,7 @@ public final class WriteTest {
         Checks.end("WriteTest");
     }
 
-    private static void written(String what, ObsMessages x, int n, boolean packed, String bits) {
+    private static void written(String what, Counted x, int n, boolean packed, String bits) {
         String b = bits.replace(" ", "");
         Checks.due(what + ", bytes", () -> x.write(n, packed), 4 + (b.length() + 7) / 8);
         Checks.due(what + ", head", x.byteAt(0) + " " + x.byteAt(1), (packed ? "67 " : "66 ") + n);
@@ -25,7 +25,7 @@ public final class WriteTest {
         Checks.due(what + ", fault", Make.fault(x), "0 at -1");
     }
 
-    private static void faulty(String what, ObsMessages x, int n, boolean packed, int number, int place) {
+    private static void faulty(String what, Counted x, int n, boolean packed, int number, int place) {
         String before = Make.message(x);
         Checks.due(what, () -> x.write(n, packed), ILLEGAL);
         Checks.due(what + ", fault", Make.fault(x), number + " at " + place);
@@ -33,7 +33,7 @@ public final class WriteTest {
     }
 
     private static void plain() {
-        ObsMessages x = Make.template(3, 4);
+        Counted x = Make.template(3, 4);
         Make.values(x, 0, 5, 10);
         Make.values(x, 1, 30, 4104);
         written("one subset", x, 1, false, "00101 000000000000");
@@ -54,7 +54,7 @@ public final class WriteTest {
     }
 
     private static void plainOfAllKinds() {
-        ObsMessages x = Make.template(463, 216, 5, 3, 460, 502, 520);
+        Counted x = Make.template(463, 216, 5, 3, 460, 502, 520);
         Make.values(x, 0, 2, 6, 1, MISSING, 30, 1, 0, 7);
         written("all kinds", x, 1, false, "00000000000000000101 110 00001 111 11110 1 0 00111");
         x = Make.template(422, 481, 5, 480, 400);
@@ -69,7 +69,7 @@ public final class WriteTest {
     }
 
     private static void wrongNumbers() {
-        ObsMessages x = Make.template(63);
+        Counted x = Make.template(63);
         for (int n : new int[] {0, -1, 9, Integer.MIN_VALUE, Integer.MAX_VALUE}) {
             Checks.due("compile", () -> x.compile(), ILLEGAL);
             faulty("n " + n, x, n, false, 0, -1);
@@ -79,31 +79,37 @@ public final class WriteTest {
     }
 
     private static void fault9() {
-        ObsMessages x = Make.template(3, 4, 5);
-        Make.values(x, 0, 0, 10, -3);
-        Make.values(x, 1, 0, 10, -3);
+        Counted x = leastOf345();
         Checks.due("the least", () -> x.write(2, false), 4 + (2 * 37 + 7) / 8);
+        Make.values(x, 0, 30, 4104, 1048571);
+        Checks.due("the greatest", () -> x.write(2, false), 14);
         long[][] wrong = {{0, -1}, {0, 31}, {0, 32}, {1, 9}, {1, 4105}, {2, -4}, {2, 1048572}, {2, Long.MIN_VALUE},
                 {2, Long.MAX_VALUE}, {1, Long.MIN_VALUE}, {1, MISSING + 1}, {1, MISSING - 1}};
         for (int s = 0; s < 2; s++) {
             for (long[] w : wrong) {
-                long before = x.get(s, (int) w[0]);
-                x.put(s, (int) w[0], w[1]);
-                faulty("subset " + s + " value " + w[1], x, 2, false, 9, 100 * s + (int) w[0]);
-                faulty("subset " + s + " value " + w[1], x, 2, true, 9, 100 * s + (int) w[0]);
-                Checks.due("no FAULT of fields()", x.fields(s), 3);
-                x.put(s, (int) w[0], before);
+                Counted y = leastOf345();
+                y.write(2, false);
+                y.put(s, (int) w[0], w[1]);
+                faulty("subset " + s + " value " + w[1], y, 2, false, 9, 100 * s + (int) w[0]);
+                faulty("subset " + s + " value " + w[1], y, 2, true, 9, 100 * s + (int) w[0]);
+                Checks.due("no FAULT of fields()", y.fields(s), 3);
             }
         }
-        Make.values(x, 0, 30, 4104, 1048571);
-        Checks.due("the greatest", () -> x.write(2, false), 14);
-        ObsMessages y = Make.template(1);
-        y.put(0, 0, 1);
-        faulty("width 1 has but 0", y, 1, false, 9, 0);
+        Counted z = Make.template(1);
+        z.put(0, 0, 1);
+        faulty("width 1 has but 0", z, 1, false, 9, 0);
+    }
+
+    /** Elements 3, 4 and 5, with their least values in subsets 0 and 1. */
+    private static Counted leastOf345() {
+        Counted x = Make.template(3, 4, 5);
+        Make.values(x, 0, 0, 10, -3);
+        Make.values(x, 1, 0, 10, -3);
+        return x;
     }
 
     private static void faultOrder() {
-        ObsMessages x = Make.withElements();
+        Counted x = Make.withElements();
         x.element(0, 6, 0, 0, 3);
         Make.refill(x, 3, 216, 6, 3, 501);
         Make.values(x, 0, 99, 99, 99, 99);
@@ -134,7 +140,7 @@ public final class WriteTest {
     }
 
     private static void packed() {
-        ObsMessages x = Make.template(3);
+        Counted x = Make.template(3);
         x.put(0, 0, 4);
         written("one", x, 1, true, "00100 000000");
         x.put(1, 0, 4);
@@ -160,25 +166,25 @@ public final class WriteTest {
     }
 
     private static void packedWidths() {
-        ObsMessages x = Make.template(2);
         for (int w = 2; w <= 32; w++) {
+            Counted x = Make.template(2);
             x.put(0, 0, 0);
             x.put(1, 0, (1L << w) - 2);
             x.write(2, true);
             Checks.due("W " + w, Make.bits(x).substring(32, 38),
                     String.format("%6s", Integer.toBinaryString(w)).replace(' ', '0'));
-            Checks.due("bits " + w, Make.bits(x).length(), 38 + 2 * w);
+            Checks.due("bits " + w, 256 * x.byteAt(2) + x.byteAt(3), 38 + 2 * w);
             x.put(1, 0, (1L << w - 1) - 1);
             x.write(2, true);
-            Checks.due("W " + w + " from", Make.bits(x).length(), 38 + 2 * w);
+            Checks.due("W " + w + " from", 256 * x.byteAt(2) + x.byteAt(3), 38 + 2 * w);
         }
-        ObsMessages y = Make.template(1);
+        Counted y = Make.template(1);
         y.put(1, 0, 0);
         written("width 1", y, 2, true, "0 000001 1 0");
     }
 
     private static void packedOfAllKinds() {
-        ObsMessages x = Make.template(463, 216, 5, 3, 460, 502, 520);
+        Counted x = Make.template(463, 216, 5, 3, 460, 502, 520);
         Make.values(x, 0, 2, 6, 1, MISSING, 30, 1, 0, 7);
         Make.values(x, 1, 2, 5, 1, 3, MISSING, 1, 0, 7);
         written("all kinds", x, 2, true, "00000000000000000101 000000  101 000010 01 00  00001 000000  011 000001 1 0"
@@ -186,7 +192,7 @@ public final class WriteTest {
     }
 
     private static void fault10() {
-        ObsMessages x = Make.template(3, 216, 3, 4, 501, 520);
+        Counted x = Make.template(3, 216, 3, 4, 501, 520);
         for (int s = 0; s < 4; s++) {
             Make.values(x, s, s, 2, 10 + s, 11 + s, 1, 12 + s);
         }
@@ -212,18 +218,19 @@ public final class WriteTest {
         faulty("another BIT", x, 4, true, 10, 302);
     }
 
+    /** All values are given by a message, as 512 calls do not put so many. */
     private static void largest() {
-        ObsMessages x = Make.template(226, 100);
+        Counted x = Make.template(226, 100);
         Make.fill(x, 0, 226, 2);
         Checks.due("PLAIN, all MISSING", () -> x.write(8, false), 4 + 8 * 100 * 4);
         Checks.due("PACKED, all MISSING", () -> x.write(8, true), 4 + 100 * 38 / 8);
+        Make.feedBits(x, 67, 8, ("1".repeat(31) + "0 000000").repeat(100));
+        Checks.due("all the same", () -> x.read(), 8);
+        Checks.due("PLAIN", () -> x.write(8, false), 4 + 8 * 100 * 4);
+        Checks.due("PACKED, all the same", () -> x.write(8, true), 4 + 100 * 38 / 8);
         for (int i = 0; i < 100; i++) {
             x.put(0, i, 0);
-            for (int s = 1; s < 8; s++) {
-                x.put(s, i, (1L << 32) - 2);
-            }
         }
-        Checks.due("PLAIN", () -> x.write(8, false), 4 + 8 * 100 * 4);
         Checks.due("PACKED", () -> x.write(8, true), 4 + 100 * (38 + 8 * 32) / 8);
         Checks.due("bits", 256 * x.byteAt(2) + x.byteAt(3), 100 * (38 + 8 * 32));
         Checks.due("the last byte", x.byteAt(4 + 100 * (38 + 8 * 32) / 8 - 1), 254);
