@@ -20,6 +20,7 @@ public final class ReadEdgesTest {
         fault6();
         fault7();
         fault8();
+        nothingOfAnEarlierRead();
         Checks.end("ReadEdgesTest");
     }
 
@@ -356,5 +357,21 @@ public final class ReadEdgesTest {
         Make.fill(u, 0, 231, 101);
         Make.fill(u, 1, 247, 416, 400);
         noPlain("the 2001st descriptor", u, 1, "0", 8, 0);
+    }
+
+    /** A message is read as if it were the first, whatever came of those before it. */
+    private static void nothingOfAnEarlierRead() {
+        Counted x = Make.template(3, 4);
+        noPlain("bits are left", x, 2, "0".repeat(35), 12, 102);
+        Checks.due("a byte of it is no message", () -> x.read(), ILLEGAL);
+        plain("a right one", x, 1, "00001 000000000001");
+        Checks.due("its values", Make.row(x, 0, 3) + "|" + Make.row(x, 1, 3), "1 11 -|- - -");
+        packed("a right one, PACKED", x, 2, "00010 000000 000000000010 000001 0 1");
+        Checks.due("its values", Make.row(x, 0, 3) + "|" + Make.row(x, 1, 3), "2 12 -|2 - -");
+        plain("PLAIN again", x, 1, "00011 111111111111");
+        Checks.due("its values", Make.row(x, 0, 3) + "|" + Make.row(x, 1, 3), "3 - -|- - -");
+        Make.refill(x, 3);
+        plain("fewer fields", x, 1, "00100");
+        Checks.due("its values", Make.row(x, 0, 3) + "|" + Make.row(x, 1, 3), "4 - -|- - -");
     }
 }

@@ -11,6 +11,7 @@ public final class TableEdgesTest {
         widths();
         refusedEntries();
         inForce();
+        leastInForce();
         versionInUse();
         dropped();
         rooms();
@@ -127,6 +128,20 @@ public final class TableEdgesTest {
                 Checks.due("version " + inUse + ", entries " + has, x.field(0, 0, 2), widthInForce(has, inUse));
             }
         }
+    }
+
+    /** The least entry is an entry: width 1, and all else 0. */
+    private static void leastInForce() {
+        for (int version = -1; version <= 3; version++) {
+            Counted x = Make.template(40);
+            x.element(version, 40, 0, 0, 1);
+            Checks.due("width 1 in version " + version, x.field(0, 0, 2), 1);
+            Checks.due("it goes", x.drop(version, 40) + " " + x.field(0, 0, 2), "true -1");
+        }
+        Counted x = Make.template(40);
+        x.element(3, 40, 5, 6, 7);
+        x.element(-1, 40, 0, 0, 1);
+        Checks.due("the overlay's", x.field(0, 0, 3) + " " + x.reference(0, 0) + " " + x.field(0, 0, 2), "0 0 1");
     }
 
     private static int widthInForce(int has, int inUse) {

@@ -26,6 +26,7 @@ public final class WalkEdgesTest {
         fieldsAtFault6();
         repetitions();
         findEdges();
+        nothingOfAnEarlierWalk();
         Checks.end("WalkEdgesTest");
     }
 
@@ -466,5 +467,39 @@ public final class WalkEdgesTest {
         Checks.due("no such element", x.find(0, 64, -1, 0) + " " + x.find(0, 63, -1, 0), "-1 -1");
         Checks.due("a template without it", Make.template(4).find(0, 3, -1, 0), -1);
         Checks.due("the 100th field", after(99, 4).find(0, 4, -1, 0), 99);
+        Checks.due("no 101st field", after(100).find(0, 3, -1, 100) + " " + after(100).find(0, 4, -1, 0), "-1 -1");
+        Checks.due("the last of 100", after(100).find(0, 3, -1, 99), 99);
+    }
+
+    /** Each walk begins anew, wherever the one before it ended. */
+    private static void nothingOfAnEarlierWalk() {
+        Counted x = Make.template(3, 4, 501, 520);
+        x.put(0, 2, 1);
+        walks("one is pointed at", x, 0, 4);
+        Make.refill(x, 3, 4, 501);
+        walks("one is pointed at, and no MARK", x, 0, 3);
+        Make.refill(x, 3, 520);
+        faulty("none is pointed at any more", x, 0, 7, 1);
+        Make.refill(x, 3);
+        Checks.due("no fields of longer walks", x.find(0, 4, -1, 0) + " " + x.field(0, 1, 0) + " " + x.reference(0, 1),
+                "-1 -1 0");
+        Make.refill(x, 501);
+        faulty("no elements of longer walks", x, 0, 7, 0);
+        Counted y = Make.template(420, 450, 487, 468, 219, 100, 460, 480, 440, 400);
+        Make.fill(y, 0, 4, 520);
+        faulty("ends under operators, in a REPEAT", y, 0, 7, 2);
+        Make.refill(y, 4);
+        Checks.due("without them then", field(y, 0, 0), "0 4 12 2 -1 -1 10");
+        Counted z = Make.template(218, 100);
+        Make.fill(z, 0, 216, 3, 4);
+        faulty("ends at a COUNT", z, 0, 6, 0);
+        Make.refill(z, 4, 216, 3, 4);
+        faulty("ends at another COUNT", z, 0, 6, 1);
+        Checks.due("an ELEMENT is none", field(z, 0, 0), "0 4 12 2 -1 -1 10");
+        Counted u = Make.template(3, 3, 502, 3);
+        u.put(0, 2, 1);
+        faulty("ends at a BIT", u, 0, 6, 3);
+        Make.refill(u, 4);
+        Checks.due("no BIT then", field(u, 0, 0), "0 4 12 2 -1 -1 10");
     }
 }
