@@ -91,7 +91,7 @@ public final class CompileEdgesTest {
         compiles("what is not used needs no entry", lists(list(0), list(63)), 1);
     }
 
-    /** The PLACE is that of the template's descriptor, however deep the fault lies. */
+    /** "Its PLACE is the place in the template (0 on) of the descriptor at which that is", however deep it lies. */
     private static void fault1InLists() {
         faulty("in a sequence", lists(list(0, 100), list(0, 63)), 1, 1);
         faulty("in a sequence of a sequence", lists(list(0, 0, 101), list(0, 63), list(0, 100)), 1, 2);
@@ -241,7 +241,7 @@ public final class CompileEdgesTest {
         faulty("what it counts", Make.template(216, 3, 62), 1, 2);
     }
 
-    /** The end is that of the REPEAT's own list: a sequence's, or what is to be repeated. */
+    /** "beyond its list's end": that of a sequence, or of what is to be repeated. */
     private static void fault3OfLists() {
         faulty("the sequence's, not the template's", lists(list(0, 100, 0, 0), list(0, 217)), 3, 1);
         compiles("within the sequence", lists(list(0, 100), list(217, 0)), 4);
@@ -349,6 +349,7 @@ public final class CompileEdgesTest {
         }
     }
 
+    /** FAULT 5 is where the element is, with the entry in force; what adds neither width nor scale has none. */
     private static void fault5Else() {
         compiles("behind the END", Make.template(401, 400, 0), 3);
         faulty("in a sequence", lists(list(0, 408, 100, 400), list(0)), 5, 2);

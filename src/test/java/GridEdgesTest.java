@@ -137,6 +137,7 @@ public final class GridEdgesTest {
         }
     }
 
+    /** LOW and STEP of the two numbers that lie farthest apart. */
     private static void farthestSteps() {
         for (int bits = 1; bits <= 31; bits++) {
             Counted x = grid(-FARTHEST, FARTHEST);
@@ -209,7 +210,7 @@ public final class GridEdgesTest {
         }
     }
 
-    /** Some 0, then some 1, in 1 bit: as one group 12 and a bit each, as two 24. */
+    /** "The cheapest cut is taken": some 0, then some 1, in 1 bit, cost 12 and a bit each as one group, 24 as two. */
     private static void groupOrNot() {
         for (int zeros = 1; zeros <= 20; zeros++) {
             for (int ones = 1; ones <= 20; ones++) {

@@ -315,6 +315,7 @@ public final class ReadEdgesTest {
 
     // ---- FAULTs 6 to 8 as above
 
+    /** "FAULTs 6 to 8 as above": a COUNT's value as it is read. */
     private static void fault6() {
         noPlain("COUNT 0", Make.template(216, 3, 1), 1, "00000 0", 6, 0);
         plain("COUNT 1", Make.template(216, 3, 1), 1, "00001 0");
@@ -330,6 +331,7 @@ public final class ReadEdgesTest {
         noPlain("no bits for a COUNT come first", Make.template(216, 3, 1), 1, "0000", 12, 0);
     }
 
+    /** "FAULTs 6 to 8 as above": BITS and MARK, before their bits are read. */
     private static void fault7() {
         plain("as many fields as BITS", Make.template(3, 501), 1, "00000 0");
         noPlain("fewer fields than BITS", Make.template(3, 502), 1, "00000 00", 7, 1);
@@ -343,6 +345,7 @@ public final class ReadEdgesTest {
                 "00000 000000 1 000000 00000 000001 0 1");
     }
 
+    /** "FAULTs 6 to 8 as above": the 101st field and the 2001st descriptor, whatever bits are left. */
     private static void fault8() {
         Counted x = hundred();
         x.append(-1, 1);

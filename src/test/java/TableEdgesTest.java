@@ -97,7 +97,7 @@ public final class TableEdgesTest {
         }
     }
 
-    /** A refused entry makes none, and leaves the one that was there as it was. */
+    /** "IllegalArgumentException: a number is not as told": it makes no entry, and leaves the one that was there. */
     private static void refusedEntries() {
         int[][] wrong = {{9, 7, 5}, {-9, 7, 5}, {3, 1000000001, 5}, {3, -1000000001, 5}, {3, 7, 0}, {3, 7, 33}};
         for (int[] w : wrong) {
@@ -207,7 +207,7 @@ public final class TableEdgesTest {
         }
     }
 
-    /** A full list: IllegalStateException, but IllegalArgumentException for no such descriptor; it stays as it is. */
+    /** "IllegalStateException: there is no room", behind no such descriptor; the list stays as it is. */
     private static void fullLists() {
         for (int list : new int[] {-1, 0, 15}) {
             Counted x = Make.withElements();

@@ -115,6 +115,7 @@ public final class WriteEdgesTest {
         }
     }
 
+    /** The same of QUALITY, COUNT and MARK; "(a BIT's is its value)". */
     private static void fault9OfOtherKinds() {
         for (int k = 1; k <= 8; k++) {
             Counted x = withMessage(460 + k, 3, 460);
@@ -205,6 +206,7 @@ public final class WriteEdgesTest {
         written("enough", z, 1, true, "110 000000" + "11111 000000".repeat(90));
     }
 
+    /** "or a FAULT": 1 to 5 of the template, ahead of those of values. */
     private static void templateFaults() {
         int[][] templates = {{3, 63}, {3, 3, 115}, {233, 3}, {3, 400}, {401, 3, 400}};
         int[] numbers = {1, 1, 3, 4, 5};
@@ -307,7 +309,7 @@ public final class WriteEdgesTest {
 
     // ---- LEAST and W
 
-    /** Every two raw numbers of width 5, MISSING among them, against the text. */
+    /** "W is 0, and nothing follows, if ..; else the least with which ..": every two raw numbers of width 5. */
     private static void leastAndSpreadOfTwo() {
         for (int a = 0; a < 32; a++) {
             for (int b = 0; b < 32; b++) {
@@ -349,7 +351,7 @@ public final class WriteEdgesTest {
         return "0".repeat(width - s.length()) + s;
     }
 
-    /** Each W from 1 to 32, with and without MISSING, and 8 subsets. */
+    /** "LEAST, the least raw number but MISSING ones": each W from 1 to 32, with and without MISSING, and 8 subsets. */
     private static void leastAndSpreadOfMany() {
         long ones = (1L << 32) - 1;
         for (int w = 1; w <= 32; w++) {
@@ -382,6 +384,7 @@ public final class WriteEdgesTest {
         written("all the greatest", x, 8, true, "11110 000000");
     }
 
+    /** COUNT and BIT are the same in all subsets: W 0, and a BIT of 1 is not MISSING. */
     private static void countAndBitPacked() {
         for (int bit = 0; bit <= 1; bit++) {
             Counted x = Make.template(216, 3, 3, 501);
